@@ -424,11 +424,18 @@ public final class LeastPlaces {
             return size >= kinds.length || size >= contents.length;
         }
 
+        /** Puts a node at the end; tells whether there was room. */
         private boolean add(int kind, int content) {
-            return insert(size, kind, content);
+            if (isFull()) {
+                return false;
+            }
+            kinds[size] = kind;
+            contents[size] = content;
+            size++;
+            return true;
         }
 
-        /** Puts a node in front of another one, or at the end; tells whether there was room. */
+        /** Puts a node in front of another one; tells whether there was room. */
         private boolean insert(int node, int kind, int content) {
             if (isFull() || node < 0 || node > size) {
                 return false;
@@ -545,23 +552,18 @@ public final class LeastPlaces {
         // The next definition's capital can't stand in a formula yet, so it always begins a definition.
         private boolean readSheet() {
             place = 0;
-            int definitions = 0;
-            while (definitions < DEFINITIONS && pass('A' + definitions)) {
-                if (!pass('=') || !readFormula(definitions) || !pass(';')) {
+            for (int i = 0; i < FORMULAS; i++) {
+                draft.forms[i].size = 0;
+            }
+            int ahead = 0;
+            while (ahead < DEFINITIONS && pass('A' + ahead)) {
+                if (!pass('=') || !readSum(draft.forms[ahead], ahead, 0) || !pass(';')) {
                     return false;
                 }
-                definitions++;
+                ahead++;
             }
-            draft.formulas = definitions + 1;
-            return readFormula(definitions) && sign() == END;
-        }
-
-        private boolean readFormula(int formula) {
-            if (formula < 0 || formula >= FORMULAS) {
-                return false;
-            }
-            draft.forms[formula].size = 0;
-            return readSum(draft.forms[formula], formula, 0);
+            draft.formulas = ahead + 1;
+            return readSum(draft.forms[ahead], ahead, 0) && sign() == END;
         }
 
         // A formula is full ahead of the bound of this loop and of the next one.
