@@ -19,6 +19,7 @@ final class CallEdges {
         readIsAnAction();
         turnFormula();
         turnNode();
+        turnWholeParts();
         turnOtherKinds();
         turnNeed();
         setCellArguments();
@@ -27,6 +28,7 @@ final class CallEdges {
         undo();
         count();
         countNumbers();
+        formulasBefore();
         formula();
         formulaProperties();
         node();
@@ -261,6 +263,16 @@ final class CallEdges {
         t.unchanged(() -> Check.sheet("A=a+b;A*A"), "turn of node 3 of 3, 7 expanded", z -> z.turn(1, 3), Check.INVALID);
     }
 
+    private void turnWholeParts() {
+        Sentence s = promise(5, "Exchanges the parts of a node, in the formula as it was read.");
+        LeastPlaces x = Check.sheet("A=a+b;!(A*c)*d-7+(e-!f)*g");
+        s.due("turn", x.turn(1, 0), 3);
+        s.dueAll("kinds", Check.nodes(x, 1, 0), 4, 6, 5, 1, 3, 1, 1, 5, 6, 3, 6, 4, 1, 1, 1, 1, 0);
+        s.dueAll("sizes", Check.nodes(x, 1, 5), 17, 6, 4, 1, 2, 1, 1, 10, 8, 6, 5, 3, 1, 1, 1, 1, 1);
+        s.due("turn back", x.turn(1, 0), 3);
+        s.dueAll("kinds", Check.nodes(x, 1, 0), 4, 5, 6, 3, 6, 4, 1, 1, 1, 1, 0, 6, 5, 1, 3, 1, 1);
+    }
+
     private void turnOtherKinds() {
         Sentence s = promise(5, "ILLEGAL_STATE if it is no \"+\" or \"*\"");
         String text = "A=a*b;!(A-7)*(h+0)";
@@ -403,6 +415,28 @@ final class CallEdges {
         t.due("no definition", Check.sheet("7").count(1), 0);
         t.due("5 cheap ones", Check.sheet("A=1;B=A;C=B;D=!C;E=!D;E").count(1), 5);
         t.due("as read", Check.sheet("A=a+b;A*A").count(2), 6);
+    }
+
+    // Of the formulas of a greater sheet, which is there before, nothing is counted.
+    private void formulasBefore() {
+        Sentence s = promise(9, "0 the number of formulas, 1 of cheap definitions, 2 of nodes of all formulas");
+        LeastPlaces x = Check.sheet("A=1;B=!a;C=7-b;D=c;E=0;a*b-c*d");
+        s.due("cheap ones before", x.count(1), 5);
+        Check.readText(x, "7");
+        int[] want = {1, 0, 1, 3, 1, 2, 1};
+        for (int what = 0; what < 7; what++) {
+            s.due("count " + what + " behind a greater sheet", x.count(what), want[what]);
+        }
+        x.undo();
+        s.due("cheap ones again", x.count(1), 5);
+        Sentence t = promise(9, "4 the greatest need of a formula");
+        Sentence u = promise(10, "6 how often its capital stands in the expanded forms of other formulas");
+        LeastPlaces y = Check.sheet("A=a*b;B=A*A;A*A-A*A");
+        t.due("before", y.count(4), 3);
+        u.due("before", y.formula(0, 6), 6);
+        Check.readText(y, "A=a*b;7");
+        t.due("behind a greater sheet", y.count(4), 2);
+        u.due("behind a greater sheet", y.formula(0, 6), 0);
     }
 
     private void formula() {

@@ -384,6 +384,8 @@ final class FormulaEdges {
         }
         s.fails("!!" + sum(14) + "+a", 30);
         s.fails("(" + sum(15) + "+a)", 31);
+        s.fails("(" + sum(15) + "+)", 31);
+        s.fails("A=" + sum(15) + "+;1", 32);
     }
 
     // ---- where a text fails
@@ -426,6 +428,9 @@ final class FormulaEdges {
                 s.fails(text.substring(0, length), length);
             }
         }
+        s.fails(sum(15) + "+", 30);
+        s.fails("A=" + sum(15) + "+", 32);
+        s.fails("!".repeat(8), 8);
         LeastPlaces x = Check.sheet("7");
         s.due("a+", Check.readText(x, "a+"), -1002);
         x.append('b');
