@@ -42,6 +42,17 @@ final class Document {
         return SECTIONS.isEmpty() || String.join("\n", SECTIONS.getOrDefault(section, List.of())).contains(words);
     }
 
+    /** The calls of the public face, as "name(argument, argument)". */
+    static List<String> calls() {
+        List<String> all = new ArrayList<>();
+        for (String line : SECTIONS.getOrDefault("The public face", List.of())) {
+            if (line.matches(" *public int \\w+\\(.*\\);")) {
+                all.add(line.replaceAll(" *public int |;$", "").replaceAll("\\bint ", ""));
+            }
+        }
+        return all;
+    }
+
     /** What each promise tells of its arguments and of its answers, part by part, as "Promise n, words". */
     static List<String> promised() {
         List<String> all = new ArrayList<>();

@@ -1,15 +1,20 @@
+import java.io.IOException;
 import java.lang.management.ManagementFactory;
 import java.lang.reflect.Constructor;
-import java.lang.reflect.Field;
 import java.lang.reflect.InvocationTargetException;
 import java.lang.reflect.Member;
 import java.lang.reflect.Method;
 import java.lang.reflect.Modifier;
+import java.nio.file.Files;
+import java.nio.file.Path;
 import java.util.Arrays;
 import java.util.Comparator;
+import java.util.StringJoiner;
 import java.util.TreeSet;
+import java.util.regex.Matcher;
+import java.util.regex.Pattern;
 
-/** The public face of the class, calls with any arguments, and the objects that calls make. */
+/** The public face of the class, calls with any arguments, and the room that a run of calls takes. */
 public final class FaceTest {
     private static final Check check = new Check();
     private static final int[] ARGUMENTS = {
@@ -19,12 +24,17 @@ public final class FaceTest {
         "", "7", "A=a+b;!A" + "+A".repeat(14), "A=!!a;!!!!!!!(A" + "+a".repeat(11) + ")",
         "A=1;B=2;C=3;D=4;E=5*A;E-D-C-B-A", "(((((((((", "a" + "*a".repeat(49), "A=a*b;B=A*A;C=B*B;C*C"};
 
-    public static void main(String[] args) throws ReflectiveOperationException {
+    public static void main(String[] args) throws ReflectiveOperationException, IOException {
         constants();
         members();
-        anyArguments();
-        noObjects();
-        manyCalls();
+        interfaceSays();
+        for (String text : TEXTS) {
+            for (Method method : calls()) {
+                new Any(text, method).callWithAll(0);
+            }
+        }
+        room();
+        behindTheLastCall();
         check.end("FaceTest");
     }
 
@@ -37,6 +47,7 @@ public final class FaceTest {
 
     private static void members() {
         Class<?> type = LeastPlaces.class;
+        check.due("public", type.getModifiers() & Modifier.PUBLIC, Modifier.PUBLIC);
         check.due("final", type.getModifiers() & Modifier.FINAL, Modifier.FINAL);
         TreeSet<String> face = new TreeSet<>();
         addOpen(face, type.getDeclaredFields());
@@ -50,23 +61,19 @@ public final class FaceTest {
             System.out.println(got);
         }
         check.due("the face", got.equals(want) ? 1 : 0, 1);
-        for (Field field : type.getDeclaredFields()) {
-            boolean fixed = !Modifier.isStatic(field.getModifiers()) || Modifier.isFinal(field.getModifiers());
-            check.due("a static field is final: " + field.getName(), fixed ? 1 : 0, 1);
-        }
-        for (Class<?> inside : type.getDeclaredClasses()) {
-            check.due("static: " + inside.getName(), Modifier.isStatic(inside.getModifiers()) ? 1 : 0, 1);
-            check.due("not public: " + inside.getName(), Modifier.isPublic(inside.getModifiers()) ? 1 : 0, 0);
-        }
     }
 
     private static void addOpen(TreeSet<String> face, Member[] members) {
         for (Member member : members) {
             if (!Modifier.isPrivate(member.getModifiers())) {
                 String name = member.getName();
+                check.due(name + " is public", Modifier.isPublic(member.getModifiers()) ? 1 : 0, 1);
                 if (member instanceof Method method) {
                     name += "/" + method.getParameterCount();
                     check.due(name + " returns an int", method.getReturnType() == int.class ? 1 : 0, 1);
+                    for (Class<?> taken : method.getParameterTypes()) {
+                        check.due(name + " takes ints", taken == int.class ? 1 : 0, 1);
+                    }
                 }
                 if (member instanceof Constructor<?> constructor) {
                     name += "/" + constructor.getParameterCount();
@@ -76,6 +83,27 @@ public final class FaceTest {
         }
     }
 
+    private static void interfaceSays() throws IOException {
+        String[][] rows = {
+            {"---- sheets", "append", "clearText", "read", "turn", "setCell", "setPlaces", "undo"},
+            {"---- looking", "count", "formula", "node", "cell"},
+            {"---- plans", "plan", "step", "costWith", "enough", "proved", "ways"}};
+        String source = Files.readString(Path.of("src/main/java/LeastPlaces.java"));
+        Matcher found = Pattern.compile("// (---- (?:sheets|looking|plans))\n|public int (\\w+)\\(").matcher(source);
+        StringJoiner got = new StringJoiner(" ");
+        while (found.find()) {
+            got.add(found.group(found.group(1) == null ? 2 : 1));
+        }
+        StringJoiner want = new StringJoiner(" ");
+        for (String[] row : rows) {
+            String calls = String.join("`, `", Arrays.copyOfRange(row, 1, row.length));
+            String words = "Ahead of the calls `" + calls + "` the interface says: " + row[0] + ".";
+            new Sentence(check, "Errors", words).due(row[0], got.toString().contains(String.join(" ", row)) ? 1 : 0, 1);
+            want.add(String.join(" ", row));
+        }
+        check.due("all calls in this order: " + got, want.toString().equals(got.toString()) ? 1 : 0, 1);
+    }
+
     private static Method[] calls() {
         Method[] all = Arrays.stream(LeastPlaces.class.getDeclaredMethods())
                 .filter(method -> Modifier.isPublic(method.getModifiers())).toArray(Method[]::new);
@@ -83,78 +111,100 @@ public final class FaceTest {
         return all;
     }
 
-    private static void anyArguments() throws ReflectiveOperationException {
-        for (String text : TEXTS) {
-            LeastPlaces x = new LeastPlaces();
-            Check.readText(x, text);
-            for (Method method : calls()) {
-                callWithAll(x, method, new Object[method.getParameterCount()], 0);
+    /** Calls of one method with all arguments that there are, on objects that are used for at most 512 calls. */
+    private static final class Any {
+        private static final int CALLS = 400;
+
+        private final String text;
+        private final Method method;
+        private final Object[] arguments;
+        private LeastPlaces x;
+        private int left;
+
+        Any(String text, Method method) {
+            this.text = text;
+            this.method = method;
+            arguments = new Object[method.getParameterCount()];
+        }
+
+        void callWithAll(int next) throws ReflectiveOperationException {
+            if (next == arguments.length) {
+                check.due(method.getName() + Arrays.toString(arguments) + " throws nothing", throwsNothing(), 1);
+                return;
+            }
+            for (int argument : ARGUMENTS) {
+                arguments[next] = argument;
+                callWithAll(next + 1);
+            }
+        }
+
+        private int throwsNothing() throws ReflectiveOperationException {
+            if (left == 0) {
+                x = new LeastPlaces();
+                Check.readText(x, text);
+                left = CALLS;
+            }
+            left--;
+            try {
+                method.invoke(x, arguments);
+                return 1;
+            } catch (InvocationTargetException thrown) {
+                System.out.println(method.getName() + " threw " + thrown.getCause());
+                return 0;
             }
         }
     }
 
-    private static void callWithAll(LeastPlaces x, Method method, Object[] arguments, int next)
-            throws ReflectiveOperationException {
-        if (next == arguments.length) {
-            check.due(method.getName() + Arrays.toString(arguments), throwsNothing(x, method, arguments), 1);
-            return;
-        }
-        for (int argument : ARGUMENTS) {
-            arguments[next] = argument;
-            callWithAll(x, method, arguments, next + 1);
-        }
-    }
+    // ---- what a run of 512 calls makes
 
-    private static int throwsNothing(LeastPlaces x, Method method, Object[] arguments)
-            throws ReflectiveOperationException {
-        try {
-            method.invoke(x, arguments);
-            return 1;
-        } catch (InvocationTargetException thrown) {
-            System.out.println(method.getName() + " threw " + thrown.getCause());
-            return 0;
-        }
-    }
+    // An object has at least 16 bytes and an element at least one, so that a run with fewer bytes than this
+    // has fewer than 600,000 objects and fewer than 7.3 million elements.
+    private static final int ROOM = 7_300_000;
+    private static final int KINDS_OF_CALLS = 18;
+    private static final int ROUNDS = 20;
 
-    // Some bytes are the machine's own, so that only what grows with the calls is looked at.
-    private static void noObjects() {
+    // Where one kind of call makes all that a round makes, a run of this kind alone must have room too.
+    private static void room() {
         com.sun.management.ThreadMXBean threads =
                 (com.sun.management.ThreadMXBean) ManagementFactory.getThreadMXBean();
-        LeastPlaces x = new LeastPlaces();
-        callAll(x);
         long id = Thread.currentThread().getId();
+        run();
         long before = threads.getThreadAllocatedBytes(id);
-        for (int i = 0; i < 400; i++) {
-            callAll(x);
-        }
+        run();
         long made = threads.getThreadAllocatedBytes(id) - before;
-        check.due("calls make no objects (" + made + " bytes)", made < 4000 ? 1 : 0, 1);
+        check.due("room for a run (" + made + " bytes)", made < ROOM / KINDS_OF_CALLS ? 1 : 0, 1);
     }
 
-    private static void callAll(LeastPlaces x) {
-        x.clearText();
-        x.append('a');
-        x.append('*');
-        x.append('b');
-        x.read();
-        x.turn(0, 0);
-        x.setCell(1, 5);
-        x.setPlaces(4);
-        x.count(4);
-        x.formula(0, 6);
-        x.node(0, 1, 3);
-        x.cell(2);
-        x.plan(1);
-        x.step(1, 1);
-        x.costWith(2);
-        x.enough();
-        x.proved(0);
-        x.ways(0);
-        x.undo();
+    private static void run() {
+        LeastPlaces x = Check.sheet("A=a+b;B=A*A;B-!A" + "+A".repeat(8));
+        for (int i = 0; i < ROUNDS; i++) {
+            x.clearText();
+            x.append('a');
+            x.append('*');
+            x.append('b');
+            x.read();
+            x.turn(0, 0);
+            x.setCell(1, 5);
+            x.setPlaces(4);
+            x.undo();
+            x.undo();
+            x.undo();
+            x.undo();
+            x.count(4);
+            x.formula(2, 6);
+            x.node(2, 1, 3);
+            x.cell(2);
+            x.plan(1);
+            x.step(1, 1);
+            x.costWith(2);
+            x.enough();
+            x.proved(1);
+            x.ways(1);
+        }
     }
 
-    // Answers are free behind the 512th call, but no call may throw there either.
-    private static void manyCalls() {
+    // What is answered there is free, but no call may throw (LANGUAGE.md, rule 7).
+    private static void behindTheLastCall() {
         LeastPlaces x = Check.sheet("a+b*c");
         for (int i = 0; i < 20000; i++) {
             x.append(i % 300);
@@ -166,6 +216,5 @@ public final class FaceTest {
                 x.undo();
             }
         }
-        check.due("still there", x.count(6) >= 0 ? 1 : 0, 1);
     }
 }
