@@ -1,3 +1,5 @@
+import java.util.Arrays;
+
 /** Promises 13 to 18: the calls that tell of plans. */
 public final class PlansTest {
     private static final Check check = new Check();
@@ -10,6 +12,7 @@ public final class PlansTest {
         spills();
         placesGoDown();
         definitions();
+        longest();
         stepErrors();
         costWith();
         enough();
@@ -110,7 +113,7 @@ public final class PlansTest {
     }
 
     private static int max(int[] numbers) {
-        return java.util.Arrays.stream(numbers).max().getAsInt();
+        return Arrays.stream(numbers).max().getAsInt();
     }
 
     private static void definitions() {
@@ -120,6 +123,34 @@ public final class PlansTest {
                 row(1, 2, 1, 0, 1, 1, 2, 1, 0, 1, 2, 1));
         check.due("promise 13: loads of what was stored", x.plan(3), 3);
         check.due("promise 13: cost", x.plan(1), 5 + 4 + (4 + 1 + 1 + 3) + 4 + 9);
+    }
+
+    // 100 characters; with 2 places each "*" spills its left part, with 3 places none does.
+    private static void longest() {
+        String text = "A=a+b;B=!A" + "*A".repeat(14) + ";C=!A" + "*A".repeat(14) + ";!A" + "*A".repeat(13);
+        check.due("a text of 100 characters", text.length(), 100);
+        LeastPlaces x = Check.sheet(text);
+        int definition = 15 * 3 + 14 + 1;
+        int result = 14 * 3 + 13 + 1;
+        int price = 15 * 3 + 14 * 3 + 1;
+        check.due("promise 13: steps with 3 places", x.plan(0), 2 * (definition + 1) + result);
+        check.due("promise 13: cost with 3 places", x.plan(1), 2 * (price + 4) + price - 6);
+        x.setPlaces(2);
+        int steps = 2 * (definition + 14 * 2 + 1) + result + 13 * 2;
+        check.due("promise 13: steps with 2 places", x.plan(0), steps);
+        check.due("promise 13: cost with 2 places", x.plan(1), 2 * (price + 4) + price - 6 + (14 + 14 + 13) * 8);
+        check.due("promise 13: spills with 2 places", x.plan(2), 14 + 14 + 13);
+        check.due("promise 14: none behind the last step", x.step(steps, 0), Check.NONE);
+        check.due("promise 14: none behind the last step", x.step(steps, 3), Check.NONE);
+        int[] last = {1, 3, 0, 1};
+        for (int what = 0; what < 4; what++) {
+            check.due("promise 14: the last step, " + what, x.step(steps - 1, what), last[what]);
+            check.due("promise 14: the last store, " + what, x.step(steps - result - 26 - 1, what),
+                    new int[] {4, 2, 0, 0}[what]);
+        }
+        int[] kinds = Check.steps(x, 0);
+        check.due("promise 14: spills", Arrays.stream(kinds).filter(kind -> kind == 2).count(), 14 + 14 + 13);
+        check.due("promise 14: loads of them", Arrays.stream(kinds).filter(kind -> kind == 3).count(), 14 + 14 + 13);
     }
 
     private static void stepErrors() {
